@@ -2,6 +2,9 @@ import java.util.List;
 
 /** Counts what is wrong in a test and ends it with exit code 1 if there was anything. */
 final class Check {
+    // What an object answers after its 512th call is free, so a run must not be longer.
+    private static final int MOST_CALLS = 512;
+
     private static int wrong = 0;
 
     private Check() {
@@ -32,6 +35,7 @@ final class Check {
             }
         }
         List<String> left = Calls.snapshot(unrefused);
+        same(name + ", at most 512 calls", rows.length + left.size() <= MOST_CALLS, true);
         same(name + ", what a refused call left", Calls.snapshot(whole), left);
     }
 

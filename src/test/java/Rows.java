@@ -29,6 +29,14 @@ final class Rows {
         return each(first, last, r -> "remove(" + catalogue + ", " + r + ") = " + isTold);
     }
 
+    /** The call, with # as its argument, is refused for the numbers that lie just and far outside. */
+    Rows refuse(String call, int least, int greatest) {
+        for (String outside : new String[] {"MIN", "" + (least - 1), "" + (greatest + 1), "MAX"}) {
+            add(call.replace("#", outside) + " = throws.IllegalArgumentException");
+        }
+        return this;
+    }
+
     /** Reads the pages of a list with so many records and told deletes, the last of which closes it. */
     Rows readAll(int catalogue, int listed) {
         int left = listed;
